@@ -1,4 +1,5 @@
 import java.io.ByteArrayOutputStream;
+import java.util.Arrays;
 
 /** Builds the bytes of modules: a part is an int (one byte), a text (bytes in hex) or bytes. */
 final class Wasm {
@@ -75,15 +76,15 @@ final class Wasm {
         return bytes(HEADER, bytes(sections));
     }
 
-    /** A module of one function, of the type, locals and instructions in hex, behind sections between 3 and 10. */
-    static byte[] body(String type, String locals, String instructions, Object... between) {
+    /** A module of one function, of the type, locals and instructions, behind sections between 3 and 10. */
+    static byte[] body(Object type, Object locals, Object instructions, Object... between) {
         return module(
                 section(1, "01 60", type), section(3, "01 00"), bytes(between),
                 section(10, "01", sized(locals, instructions)));
     }
 
     /** A function of no parameters and no result, no locals. */
-    static byte[] body(String instructions) {
+    static byte[] body(Object instructions) {
         return body("00 00", "00", instructions);
     }
 
@@ -124,11 +125,16 @@ final class Wasm {
         Check.same(what + " [" + hex(row) + "]", read(row), due);
     }
 
+    /** The bytes in hex, cut where they would fill the screen. */
     static String hex(byte[] row) {
+        return row.length > 120 ? hexAll(Arrays.copyOf(row, 120)) + " .." : hexAll(row);
+    }
+
+    static String hexAll(byte[] row) {
         StringBuilder out = new StringBuilder();
-        for (int k = 0; k < row.length && k < 120; k++) {
-            out.append(String.format("%s%02x", k == 0 ? "" : " ", row[k] & 0xff));
+        for (byte one : row) {
+            out.append(String.format("%02x ", one & 0xff));
         }
-        return out.append(row.length > 120 ? " .." : "").toString();
+        return out.toString().trim();
     }
 }
