@@ -645,9 +645,9 @@ public final class WasmReader {
 
         void header() {
             cursor.expect(0);
-            cursor.expect('a');
-            cursor.expect('s');
-            cursor.expect('m');
+            cursor.expect(0x61);
+            cursor.expect(0x73);
+            cursor.expect(0x6d);
             cursor.expect(1);
             cursor.expect(0);
             cursor.expect(0);
@@ -1039,7 +1039,7 @@ public final class WasmReader {
             height++;
         }
 
-        /** Pops an operand of the type (UNKNOWN: of any), or none if it is NONE: the type, as far as it is known now. */
+        /** Pops an operand of the type (UNKNOWN: of any; NONE: no operand): the type, as far as it is known now. */
         int pop(int type) {
             if (type == NONE) {
                 return NONE;
@@ -1068,7 +1068,6 @@ public final class WasmReader {
         void turnToElse() {
             finishArm();
             opener[top] = ELSE;
-            height = floor[top];
             unreachable[top] = false;
         }
 
@@ -1176,7 +1175,7 @@ public final class WasmReader {
 
         private boolean segmentsHold(Segments segments, int targets) {
             for (int n = 0; n < segments.count && n < MOST_SEGMENTS; n++) {
-                // Unlike those of globals, these INITIALS may use the module's own globals too.
+                // The specification keeps only the INITIALS of globals to imported ones: these may use all.
                 if (segments.target[n] >= targets || segments.highest[n] >= module.functions.count
                         || !initialHolds(segments.offsetOpcode[n], segments.offsetValue[n], I32, MOST_GLOBALS)) {
                     return false;

@@ -107,7 +107,8 @@ public final class BodyTest {
             for (int alignment = 0; alignment <= 4; alignment++) {
                 for (int result = 0; result < 2; result++) {
                     for (int address = 0; address < 2; address++) {
-                        String instructions = String.format("%s %02x %02x 05 0b", CONSTANTS[address], row[0], alignment);
+                        String instructions = String.format("%s %02x %02x 05 0b",
+                                CONSTANTS[address], row[0], alignment);
                         int due = alignment <= row[1] && result == row[2] && address == 0 ? 0 : 2;
                         Wasm.reads("a load", Wasm.body("00 01 " + TYPES[result], "00", instructions, MEMORY), due);
                     }
@@ -285,6 +286,7 @@ public final class BodyTest {
     private static void indirectCalls() {
         calling("call_indirect", "41 00 42 00 41 00 11 01 00 1a 0b", 0);
         calling("call_indirect of no parameters", "41 00 11 00 00 0b", 0);
+        calling("call_indirect of no result", "41 00 11 00 00 1a 0b", 2);
         calling("call_indirect of an i64", "42 00 11 00 00 0b", 2);
         calling("call_indirect of nothing", "11 00 00 0b", 2);
         calling("call_indirect with what is in wrong order", "42 00 41 00 41 00 11 01 00 1a 0b", 2);

@@ -121,7 +121,9 @@ public final class GrammarTest {
         module("a type", 0, Wasm.section(1, "01 60 02 7f 7e 01 7e"));
         module("six parameters", 0, Wasm.section(1, "01 60 06 7f 7e 7f 7e 7f 7e 00"));
         module("seven parameters", 1, Wasm.section(1, "01 60 07 7f 7e 7f 7e 7f 7e 7f 00"));
+        module("seven parameters, of which one is missing", 1, Wasm.section(1, "01 60 07 7f 7f 7f 7f 7f 7f 00"));
         module("two results", 1, Wasm.section(1, "01 60 00 02 7f 7f"));
+        module("two results, of which one is missing", 1, Wasm.section(1, "02 60 00 02 7f 60 00 00"));
         for (int code = 0; code < 256; code++) {
             int due = code == 0x7f || code == 0x7e ? 0 : 1;
             module("a parameter's type", due, Wasm.section(1, "01 60 01", code, "00"));
@@ -138,6 +140,7 @@ public final class GrammarTest {
         module("an imported global", 0, Wasm.section(2, "01 00 00 03 7e 01"));
         for (int sort = 4; sort < 256; sort++) {
             module("an import of another sort", 1, type, Wasm.section(2, "01 00 00", sort, "00 00"));
+            module("an import of another sort and nothing", 1, type, Wasm.section(2, "01 00 00", sort));
         }
         module("an import without its last byte", 1, Wasm.section(2, "01 00 00 03 7e"));
         module("an import's name too long", 1, type, Wasm.section(2, "01 00 05 61 00 00"));

@@ -117,6 +117,7 @@ public final class RowTest {
             Check.same("export after a fault", () -> reader.export(0, 0), STATE);
             Check.same("global after a fault", () -> reader.global(0, 0), STATE);
             Check.same("initial after a fault", () -> reader.initial(0), STATE);
+            Check.same("read of a good body", Wasm.read(reader, Wasm.body("02 40 41 00 1a 0b 0b")), 0);
             Check.same("read of the good one again", Wasm.read(reader, good), 0);
             Check.same("initial again", reader.initial(0), 5);
         }
