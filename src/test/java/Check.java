@@ -1,5 +1,11 @@
 /** Counts the answers that are not as due, and tells them. */
 final class Check {
+    static final String STATE = "IllegalStateException";
+    static final String INDEX = "IndexOutOfBoundsException";
+    static final String ARGUMENT = "IllegalArgumentException";
+    static final int LOW = Integer.MIN_VALUE;
+    static final int HIGH = Integer.MAX_VALUE;
+
     private static int checks = 0;
     private static int wrong = 0;
 

@@ -11,14 +11,15 @@ public final class FaceTest {
         TreeSet<String> face = new TreeSet<>(Arrays.asList(
                 "int feed[int, int, int, int, int]", "int end[int]", "int read[]", "int count[int]",
                 "int function[int, int]", "int export[int, int]", "int global[int, int]", "long initial[int]"));
-        TreeSet<String> names = new TreeSet<>();
+        TreeSet<String> names = new TreeSet<>(Arrays.asList(
+                "feed", "end", "read", "count", "function", "export", "global", "initial"));
         TreeSet<String> found = new TreeSet<>();
         for (Method method : WasmReader.class.getDeclaredMethods()) {
             if (Modifier.isPublic(method.getModifiers())) {
                 found.add(described(method));
-                names.add(method.getName());
             } else {
                 Check.same(method + " is private", Modifier.isPrivate(method.getModifiers()) ? 1 : 0, 1);
+                Check.same(method + " has a name of its own", names.contains(method.getName()) ? 1 : 0, 0);
             }
         }
         Check.same("the face is " + found, found.equals(face) ? 1 : 0, 1);
@@ -31,10 +32,8 @@ public final class FaceTest {
         Check.same("it is public", Modifier.isPublic(constructors[0].getModifiers()) ? 1 : 0, 1);
         Check.same("the class is final", Modifier.isFinal(WasmReader.class.getModifiers()) ? 1 : 0, 1);
         for (Class<?> inside : WasmReader.class.getDeclaredClasses()) {
-            Check.same(inside + " is static", Modifier.isStatic(inside.getModifiers()) ? 1 : 0, 1);
-            for (Method method : inside.getDeclaredMethods()) {
-                Check.same(method + " has a name of its own", names.contains(method.getName()) ? 1 : 0, 0);
-            }
+            int open = inside.getModifiers() & (Modifier.PUBLIC | Modifier.PROTECTED);
+            Check.same(inside + " is not seen from outside", open, 0);
         }
         Check.finish("FaceTest");
     }

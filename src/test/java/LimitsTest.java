@@ -1,180 +1,280 @@
-/** Promise 4, the fault 3: each limit, just reached and just passed. */
+/** "Terms", the fault 3: each limit, just below it, just reached, just passed and far beyond. */
 public final class LimitsTest {
-    private static final byte[] TYPE = Wasm.section(1, "01 60 00 00");
+    private static final int FAR = 300;
+    private static final String SIX = "06 7f 7f 7f 7f 7f 7f 00";
+
+    private interface Maker {
+        Sections of(int many);
+    }
 
     public static void main(String[] args) {
-        typesAndImports();
+        types();
+        imports();
         functions();
         globals();
         exports();
-        segments();
+        elements();
+        data();
         locals();
         blocks();
         labels();
         names();
-        ownSizes();
-        tooLargeBeforeInvalid();
+        customNames();
+        ownTable();
+        ownMemory();
+        importedTable();
+        importedMemory();
         Check.finish("LimitsTest");
     }
 
-    private static void module(String what, int due, Object... sections) {
-        Wasm.reads(what, Wasm.module(sections), due);
+    private static void limit(String what, int most, Maker maker) {
+        for (int many : new int[] {most - 1, most, most + 1, most + 2, FAR}) {
+            // A start of function 127 is not valid; a byte behind all sections, or a custom one too long, is malformed.
+            Sections module = maker.of(many);
+            Sections invalid = module.with(8, "7f");
+            boolean fits = many <= most;
+            String these = many + " " + what;
+            reads(these, module, fits ? 0 : 3);
+            reads(these + ", and not valid", invalid, fits ? 2 : 3);
+            reads(these + ", and malformed behind it", module.behind("0b"), 1);
+            reads(these + ", and malformed before it", module.before("00 01 05"), 1);
+            reads(these + ", not valid and malformed", invalid.behind("0b"), 1);
+        }
     }
 
-    private static void typesAndImports() {
-        module("40 types", 0, Wasm.section(1, Wasm.many(40, "60 00 00")));
-        module("41 types", 3, Wasm.section(1, Wasm.many(41, "60 00 00")));
-        module("the last of 40 types is known", 0,
-                Wasm.section(1, Wasm.many(40, "60 00 00")), Wasm.section(2, "01 00 00 00 27"));
-        module("the type behind the last of 40", 2,
-                Wasm.section(1, Wasm.many(40, "60 00 00")), Wasm.section(2, "01 00 00 00 28"));
-        module("30 imports", 0, TYPE, Wasm.section(2, Wasm.many(30, "00 00 00 00")));
-        module("31 imports", 3, TYPE, Wasm.section(2, Wasm.many(31, "00 00 00 00")));
-        module("31 imports of several sorts", 3, TYPE, Wasm.section(2, "1f",
-                Wasm.times(15, "00 00 00 00"), Wasm.times(14, "00 00 03 7f 00"), "00 00 02 00 01 00 00 01 70 00 01"));
-        module("30 imports of several sorts", 0, TYPE, Wasm.section(2, "1e",
-                Wasm.times(14, "00 00 00 00"), Wasm.times(14, "00 00 03 7f 00"), "00 00 02 00 01 00 00 01 70 00 01"));
+    private static void reads(String what, Sections module, int due) {
+        Wasm.reads(what, module.bytes(), due);
     }
 
-    private static byte[] functionsOf(int imported, int own) {
-        return Wasm.module(TYPE, Wasm.section(2, Wasm.many(imported, "00 00 00 00")),
-                Wasm.section(3, Wasm.many(own, "00")), Wasm.section(10, Wasm.many(own, "02 00 0b")));
+    private static void types() {
+        limit("types", 40, Sections::types);
+        reads("the first type is known", Sections.types(40).with(2, "01 00 00 00 00"), 0);
+        reads("the last of 40 types is known", Sections.types(40).with(2, "01 00 00 00 27"), 0);
+        reads("the type behind the last of 40", Sections.types(40).with(2, "01 00 00 00 28"), 2);
+        reads("the type before the last of 39", Sections.types(39).with(2, "01 00 00 00 26"), 0);
+        reads("the type behind the last of 39", Sections.types(39).with(2, "01 00 00 00 27"), 2);
+    }
+
+    private static void imports() {
+        limit("imported functions", 30, n -> Sections.functions(n, 0));
+        limit("imported globals", 30, n -> Sections.globals(n, 0));
+        limit("imports of several sorts", 30, n -> Sections.none().with(1, Sections.EMPTY_TYPE).with(2,
+                Wasm.unsigned(n), "00 00 02 00 01", Wasm.times(n - 16, "00 00 00 00"),
+                Wasm.times(14, "00 00 03 7f 00"), "00 00 01 70 00 01"));
+        // Two tables are not valid, but they are imports all the same.
+        reads("30 imported tables", Sections.none().with(2, Wasm.many(30, "00 00 01 70 00 01")), 2);
+        reads("31 imported tables", Sections.none().with(2, Wasm.many(31, "00 00 01 70 00 01")), 3);
+        reads("30 imported memories", Sections.none().with(2, Wasm.many(30, "00 00 02 00 01")), 2);
+        reads("31 imported memories", Sections.none().with(2, Wasm.many(31, "00 00 02 00 01")), 3);
     }
 
     private static void functions() {
-        Wasm.reads("60 functions", functionsOf(0, 60), 0);
-        Wasm.reads("61 functions", functionsOf(0, 61), 3);
-        Wasm.reads("60 functions, 30 imported", functionsOf(30, 30), 0);
-        Wasm.reads("61 functions, 30 imported", functionsOf(30, 31), 3);
-        Wasm.reads("61 functions, 1 imported", functionsOf(1, 60), 3);
-        Wasm.reads("400 functions", functionsOf(0, 400), 3);
-        WasmReader reader = Wasm.reader(functionsOf(30, 30));
-        Check.same("the last of 60 functions", reader.function(59, 3), 1);
-        Check.same("the first of its own", reader.function(30, 3), 1);
-        Check.same("the last that is imported", reader.function(29, 3), 0);
-    }
-
-    private static byte[] globalsOf(int imported, int own) {
-        return Wasm.module(Wasm.section(2, Wasm.many(imported, "00 00 03 7f 00")),
-                Wasm.section(6, Wasm.many(own, "7f 00 41 05 0b")));
+        limit("functions", 60, n -> Sections.functions(0, n));
+        limit("functions, 1 imported", 60, n -> Sections.functions(1, n - 1));
+        limit("functions, 30 imported", 60, n -> Sections.functions(30, n - 30));
+        reads("the last of 60 functions", Sections.functions(30, 30).with(8, "3b"), 0);
+        reads("the function behind the last of 60", Sections.functions(30, 30).with(8, "3c"), 2);
     }
 
     private static void globals() {
-        Wasm.reads("30 globals", globalsOf(0, 30), 0);
-        Wasm.reads("31 globals", globalsOf(0, 31), 3);
-        Wasm.reads("30 globals, 10 imported", globalsOf(10, 20), 0);
-        Wasm.reads("31 globals, 10 imported", globalsOf(10, 21), 3);
-        Wasm.reads("30 globals, all imported", globalsOf(30, 0), 0);
-        Wasm.reads("31 globals, 30 imported", globalsOf(30, 1), 3);
-        Check.same("the last of 30 globals", Wasm.reader(globalsOf(10, 20)).initial(29), 5);
-    }
-
-    private static byte[] exportsOf(int many) {
-        byte[] parts = Wasm.unsigned(many);
-        for (int n = 0; n < many; n++) {
-            parts = Wasm.bytes(parts, "02 61", n, "03 00");
-        }
-        return Wasm.module(Wasm.section(6, "01 7f 00 41 00 0b"), Wasm.section(7, parts));
+        limit("globals", 30, n -> Sections.globals(0, n));
+        limit("globals, 1 imported", 30, n -> Sections.globals(1, n - 1));
+        limit("globals, 29 imported", 30, n -> Sections.globals(29, n - 29));
+        reads("30 globals, all imported", Sections.globals(30, 0), 0);
+        reads("31 globals, 30 imported", Sections.globals(30, 1), 3);
+        reads("the last of 30 globals", Sections.globals(10, 20).with(7, "01 00 03 1d"), 0);
+        reads("the global behind the last of 30", Sections.globals(10, 20).with(7, "01 00 03 1e"), 2);
     }
 
     private static void exports() {
-        Wasm.reads("40 exports", exportsOf(40), 0);
-        Wasm.reads("41 exports", exportsOf(41), 3);
-        Check.same("the last of 40 exports", Wasm.reader(exportsOf(40)).export(39, 11), 39);
+        limit("exports", 40, Sections::exports);
+        reads("40 exports of nothing", Sections.none().with(7, Wasm.many(40, "00 00 00")), 2);
+        reads("41 exports of nothing", Sections.none().with(7, Wasm.many(41, "00 00 00")), 3);
     }
 
-    private static void segments() {
-        byte[] table = Wasm.section(4, "01 70 00 01");
-        byte[] memory = Wasm.section(5, "01 00 01");
-        module("20 elements", 0, table, Wasm.section(9, Wasm.many(20, "00 41 00 0b 00")));
-        module("21 elements", 3, table, Wasm.section(9, Wasm.many(21, "00 41 00 0b 00")));
-        module("20 data", 0, memory, Wasm.section(11, Wasm.many(20, "00 41 00 0b 00")));
-        module("21 data", 3, memory, Wasm.section(11, Wasm.many(21, "00 41 00 0b 00")));
-        module("an element of 300 functions", 0, TYPE, Wasm.section(3, "01 00"), table,
-                Wasm.section(9, "01 00 41 00 0b", Wasm.many(300, "00")), Wasm.section(10, "01 02 00 0b"));
-        module("data of 3000 bytes", 0, memory, Wasm.section(11, "01 00 41 00 0b", Wasm.many(3000, "00")));
+    private static void elements() {
+        limit("elements", 20, Sections::elements);
+        reads("the last of 20 elements is wrong",
+                Sections.elements(0).with(9, "14", Wasm.times(19, "00 41 00 0b 00"), "00 42 00 0b 00"), 2);
+        reads("an element of 300 functions",
+                Sections.functions(0, 1).with(4, "01 70 00 01").with(9, "01 00 41 00 0b", Wasm.many(300, "00")), 0);
+    }
+
+    private static void data() {
+        limit("data", 20, Sections::data);
+        reads("the last of 20 data is wrong",
+                Sections.data(0).with(11, "14", Wasm.times(19, "00 41 00 0b 00"), "00 42 00 0b 00"), 2);
+        reads("data of 3000 bytes", Sections.data(0).with(11, "01 00 41 00 0b", Wasm.many(3000, "00")), 0);
+    }
+
+    private static Sections locals(int many) {
+        return Sections.body("00 00", Wasm.bytes("01", Wasm.unsigned(many), "7f"), "0b");
     }
 
     private static void locals() {
-        Wasm.reads("30 locals at once", Wasm.body("00 00", "01 1e 7f", "0b"), 0);
-        Wasm.reads("31 locals at once", Wasm.body("00 00", "01 1f 7f", "0b"), 3);
-        Wasm.reads("30 locals in groups", Wasm.body("00 00", "03 0a 7f 0a 7e 0a 7f", "0b"), 0);
-        Wasm.reads("31 locals in groups", Wasm.body("00 00", "03 0a 7f 0a 7e 0b 7f", "0b"), 3);
-        Wasm.reads("6 parameters and 24 locals", Wasm.body("06 7f 7f 7f 7f 7f 7f 00", "01 18 7e", "0b"), 0);
-        Wasm.reads("6 parameters and 25 locals", Wasm.body("06 7f 7f 7f 7f 7f 7f 00", "01 19 7e", "0b"), 3);
-        Wasm.reads("many locals, then none", Wasm.body("00 00", "02 ff 7f 7f 00 7e", "0b"), 3);
-        byte[] unknownType = Wasm.section(3, "01 05");
-        module("30 locals of a function of no known type", 2,
-                TYPE, unknownType, Wasm.section(10, "01 04 01 1e 7f 0b"));
-        module("31 locals of a function of no known type", 3,
-                TYPE, unknownType, Wasm.section(10, "01 04 01 1f 7f 0b"));
+        limit("locals at once", 30, LimitsTest::locals);
+        limit("locals one by one", 30, n -> Sections.body("00 00", Wasm.many(n, "01 7e"), "0b"));
+        limit("locals in two groups", 30, n -> Sections.body("00 00",
+                Wasm.bytes("02 0f 7f", Wasm.unsigned(n - 15), "7e"), "0b"));
+        limit("locals, 1 of them a parameter", 30, n -> Sections.body("01 7e 00",
+                Wasm.bytes("01", Wasm.unsigned(n - 1), "7e"), "0b"));
+        limit("locals, 6 of them parameters", 30, n -> Sections.body(SIX,
+                Wasm.bytes("01", Wasm.unsigned(n - 6), "7e"), "0b"));
+        limit("locals of the last function", 30, n -> Sections.functions(1, 2).with(10,
+                "02", Sections.EMPTY_BODY, Wasm.sized("01", Wasm.unsigned(n), "7f 0b")));
+        reads("30 locals in each of two", Sections.functions(0, 2).with(10, "02 04 01 1e 7f 0b 04 01 1e 7f 0b"), 0);
+        reads("many locals, then none", Sections.body("00 00", "02 ff 7f 7f 00 7e", "0b"), 3);
+        reads("30 locals and none of another type", Sections.body("00 00", "02 1e 7f 00 7e", "0b"), 0);
+        reads("30 locals and one of another type", Sections.body("00 00", "02 1e 7f 01 7e", "0b"), 3);
+        reads("as many locals as can be", Sections.body("00 00", "01 ff ff ff ff 0f 7f", "0b"), 3);
+        reads("31 locals and a wrong body", Sections.body("00 00", "01 1f 7f", "6a 0b"), 3);
+        reads("30 locals of no known type", locals(30).with(3, "01 05"), 2);
+        reads("31 locals of no known type", locals(31).with(3, "01 05"), 3);
+        reads("the last of 30 locals", Sections.body("00 00", "01 1e 7f", "20 1d 1a 0b"), 0);
+        reads("the local behind the last of 30", Sections.body("00 00", "01 1e 7f", "20 1e 1a 0b"), 2);
     }
 
-    private static byte[] nested(int depth, String opener) {
-        return Wasm.body(Wasm.bytes(Wasm.times(depth, opener), Wasm.times(depth + 1, "0b")));
+    private static Sections nested(int depth, String opener, Object inside) {
+        return Sections.body("00 00", "00",
+                Wasm.bytes(Wasm.times(depth, opener), inside, Wasm.times(depth + 1, "0b")));
     }
 
     private static void blocks() {
-        String[] openers = {"02 40", "03 40", "41 00 04 40", "41 00 04 40 05"};
-        for (String opener : openers) {
-            Wasm.reads("30 blocks in one another", nested(30, opener), 0);
-            Wasm.reads("31 blocks in one another", nested(31, opener), 3);
+        for (String opener : new String[] {"02 40", "03 40", "41 00 04 40", "41 00 04 40 05"}) {
+            limit("blocks in one another by " + opener, 30, n -> nested(n, opener, ""));
         }
-        Wasm.reads("900 blocks in one another", nested(900, "02 40"), 3);
-        Wasm.reads("100 blocks behind one another", Wasm.body(Wasm.bytes(Wasm.times(100, "02 40 0b"), "0b")), 0);
-        Wasm.reads("31 blocks that are never reached",
-                Wasm.body(Wasm.bytes("00", Wasm.times(31, "02 40"), Wasm.times(32, "0b"))), 3);
-        Wasm.reads("a branch out of 30 blocks",
-                Wasm.body(Wasm.bytes(Wasm.times(30, "02 40"), "0c 1e", Wasm.times(31, "0b"))), 0);
-        Wasm.reads("a branch beyond",
-                Wasm.body(Wasm.bytes(Wasm.times(30, "02 40"), "0c 1f", Wasm.times(31, "0b"))), 2);
+        limit("blocks that are never reached", 30, n -> Sections.body("00 00", "00",
+                Wasm.bytes("00", Wasm.times(n, "02 40"), Wasm.times(n + 1, "0b"))));
+        limit("blocks of several sorts", 30, n -> Sections.body("00 00", "00", Wasm.bytes(
+                "02 40 03 40 41 00 04 40", Wasm.times(n - 3, "02 40"), Wasm.times(n + 1, "0b"))));
+        limit("blocks in the second function", 30, n -> Sections.functions(0, 2).with(10, "02",
+                Sections.EMPTY_BODY, Wasm.sized("00", Wasm.times(n, "02 40"), Wasm.times(n + 1, "0b"))));
+        reads("30 blocks, behind 30 others", Sections.body("00 00", "00", Wasm.bytes(
+                Wasm.times(30, "02 40"), Wasm.times(30, "0b"), Wasm.times(30, "02 40"), Wasm.times(31, "0b"))), 0);
+        reads("31 blocks, behind 30 others", Sections.body("00 00", "00", Wasm.bytes(
+                Wasm.times(30, "02 40"), Wasm.times(30, "0b"), Wasm.times(31, "02 40"), Wasm.times(32, "0b"))), 3);
+        reads("900 blocks in one another", nested(900, "02 40", ""), 3);
+        reads("100 blocks behind one another",
+                Sections.body("00 00", "00", Wasm.bytes(Wasm.times(100, "02 40 0b"), "0b")), 0);
+        reads("two in the 29th block", nested(29, "02 40", "02 40 0b 02 40 0b"), 0);
+        reads("one in the 30th block", nested(30, "02 40", "02 40 0b"), 3);
+        // The function itself is no block, but it has a label.
+        reads("a branch out of 30 blocks", nested(30, "02 40", "0c 1e"), 0);
+        reads("a branch beyond", nested(30, "02 40", "0c 1f"), 2);
     }
 
     private static void labels() {
-        Wasm.reads("no labels but the last", Wasm.body("41 00 0e 00 00 0b"), 0);
-        Wasm.reads("20 labels", Wasm.body(Wasm.bytes("41 00 0e", Wasm.many(20, "00"), "00 0b")), 0);
-        Wasm.reads("21 labels", Wasm.body(Wasm.bytes("41 00 0e", Wasm.many(21, "00"), "00 0b")), 3);
-        Wasm.reads("the 20th of 20 labels", Wasm.body(Wasm.bytes("41 00 0e 14", Wasm.times(19, "00"), "01 00 0b")), 2);
-        Wasm.reads("the one behind 20 labels", Wasm.body(Wasm.bytes("41 00 0e", Wasm.many(20, "00"), "01 0b")), 2);
+        limit("labels of a br_table", 20,
+                n -> Sections.body("00 00", "00", Wasm.bytes("41 00 0e", Wasm.many(n, "00"), "00 0b")));
+        limit("labels that are never reached", 20,
+                n -> Sections.body("00 00", "00", Wasm.bytes("00 0e", Wasm.many(n, "00"), "00 0b")));
+        reads("no label but the last", Sections.body("00 00", "00", "41 00 0e 00 00 0b"), 0);
+        reads("20 labels, twice", Sections.body("00 00", "00", Wasm.bytes(
+                Wasm.times(2, Wasm.bytes("41 00 0e", Wasm.many(20, "00"), "00")), "0b")), 0);
+        reads("the 20th of 20 labels", Sections.body("00 00", "00",
+                Wasm.bytes("41 00 0e 14", Wasm.times(19, "00"), "01 00 0b")), 2);
+        reads("the one behind 20 labels", Sections.body("00 00", "00",
+                Wasm.bytes("41 00 0e", Wasm.many(20, "00"), "01 0b")), 2);
+        reads("the 21st of 21 labels", Sections.body("00 00", "00",
+                Wasm.bytes("41 00 0e 15", Wasm.times(20, "00"), "01 00 0b")), 3);
     }
 
     private static void names() {
-        byte[] global = Wasm.section(6, "01 7f 00 41 00 0b");
-        for (int length = 19; length <= 22; length++) {
-            int due = length > 20 ? 3 : 0;
-            byte[] name = Wasm.many(length, "61");
-            module("an import's first name", due, Wasm.section(2, "01", name, "00 03 7f 00"));
-            module("an import's second name", due, Wasm.section(2, "01 00", name, "03 7f 00"));
-            module("an export's name", due, global, Wasm.section(7, "01", name, "03 00"));
-            module("a custom section's name", 0, Wasm.section(0, name));
+        limit("bytes of an import's first name", 20, n -> Sections.none().with(2,
+                "01", Wasm.many(n, "61"), "00 03 7f 00"));
+        limit("bytes of an import's second name", 20, n -> Sections.none().with(2,
+                "01 00", Wasm.many(n, "61"), "03 7f 00"));
+        limit("bytes of both names of an import", 20, n -> Sections.none().with(2,
+                "01", Wasm.many(n, "ff"), Wasm.many(n, "ff"), "03 7f 00"));
+        limit("bytes of an export's name", 20, n -> Sections.none().with(6, "01", Sections.I32_GLOBAL).with(7,
+                "01", Wasm.many(n, "61"), "03 00"));
+        limit("bytes of the second export's name", 20, n -> Sections.none().with(6, "01", Sections.I32_GLOBAL).with(7,
+                "02 00 03 00", Wasm.many(n, "ff"), "03 00"));
+        reads("empty names", Sections.none().with(2, "01 00 00 03 7f 00").with(7, "01 00 03 00"), 0);
+    }
+
+    /** The names of custom sections are of any length, as far as THE ROW is long enough. */
+    private static void customNames() {
+        for (int length : new int[] {0, 1, 19, 20, 21, 127, 128, FAR, 3986, 3987}) {
+            byte[] custom = Wasm.section(0, Wasm.many(length, "61"));
+            reads("a custom name of " + length + " bytes", Sections.none().before(custom), 0);
+            if (length <= FAR) {
+                Sections types = Sections.types(40).before(custom).behind(custom);
+                reads("two custom names of " + length + " bytes", types, 0);
+                reads("the same, not valid", types.with(8, "7f"), 2);
+                reads("the same, too large", types.with(5, "01 00 03"), 3);
+            }
         }
+        Check.same("the longest fills the row", Wasm.module(Wasm.section(0, Wasm.many(3987, "61"))).length, 4000);
     }
 
-    private static void ownSizes() {
-        module("a table of 200", 0, Wasm.section(4, "01 70 00 c8 01"));
-        module("a table of 201", 3, Wasm.section(4, "01 70 00 c9 01"));
-        module("a table of 200 that may grow", 0, Wasm.section(4, "01 70 01 c8 01 ff ff ff ff 0f"));
-        module("a table of the highest size", 3, Wasm.section(4, "01 70 00 ff ff ff ff 0f"));
-        module("an imported table of 201", 0, Wasm.section(2, "01 00 00 01 70 00 c9 01"));
-        module("an imported table of the highest size", 0, Wasm.section(2, "01 00 00 01 70 00 ff ff ff ff 0f"));
-        module("a memory of 2 pages", 0, Wasm.section(5, "01 00 02"));
-        module("a memory of 3 pages", 3, Wasm.section(5, "01 00 03"));
-        module("a memory of 2 pages that may grow", 0, Wasm.section(5, "01 01 02 80 80 04"));
-        module("an imported memory of 3 pages", 0, Wasm.section(2, "01 00 00 02 00 03"));
-        module("an imported memory of 65536 pages", 0, Wasm.section(2, "01 00 00 02 00 80 80 04"));
+    private static void ownTable() {
+        limit("of a table at first", 200, n -> Sections.none().with(4, "01 70 00", Wasm.unsigned(n)));
+        limit("of a table at first that may grow", 200, n -> Sections.none().with(4,
+                "01 70 01", Wasm.unsigned(n), "ff ff ff ff 0f"));
+        limit("of a table at first and at most", 200, n -> Sections.none().with(4,
+                "01 70 01", Wasm.unsigned(n), Wasm.unsigned(n)));
+        reads("a table of 0", Sections.none().with(4, "01 70 00 00"), 0);
+        reads("a table of 0 at most 0", Sections.none().with(4, "01 70 01 00 00"), 0);
+        reads("a table of the highest size", Sections.none().with(4, "01 70 00 ff ff ff ff 0f"), 3);
+        reads("a table of 200 to 199", Sections.none().with(4, "01 70 01 c8 01 c7 01"), 2);
+        reads("a table of 201 to 1", Sections.none().with(4, "01 70 01 c9 01 01"), 3);
+        reads("two tables of 200", Sections.none().with(4, "02 70 00 c8 01 70 00 c8 01"), 2);
+        reads("two tables, the first of 201", Sections.none().with(4, "02 70 00 c9 01 70 00 01"), 3);
+        reads("two tables, the second of 201", Sections.none().with(4, "02 70 00 01 70 00 c9 01"), 3);
     }
 
-    private static void tooLargeBeforeInvalid() {
-        module("a memory of 3 to 1 pages", 3, Wasm.section(5, "01 01 03 01"));
-        module("a memory of 65537 pages", 3, Wasm.section(5, "01 00 81 80 04"));
-        module("a table of 201 to 1", 3, Wasm.section(4, "01 70 01 c9 01 01"));
-        module("two memories, one of 3 pages first", 3, Wasm.section(5, "02 00 03 00 01"));
-        module("two memories, one of 3 pages last", 3, Wasm.section(5, "02 00 01 00 03"));
-        module("two tables, one of 201 first", 3, Wasm.section(4, "02 70 00 c9 01 70 00 01"));
-        Wasm.reads("31 locals and a wrong body", Wasm.body("00 00", "01 1f 7f", "6a 0b"), 3);
-        module("41 exports of nothing", 3, Wasm.section(7, Wasm.many(41, "00 00 00")));
-        module("40 exports of nothing", 2, Wasm.section(7, Wasm.many(40, "00 00 00")));
-        module("a start that is not there and 21 bytes of a name", 3,
-                Wasm.section(2, "01 00", Wasm.many(21, "61"), "03 7f 00"), Wasm.section(8, "05"));
+    private static void ownMemory() {
+        limit("pages at first", 2, n -> Sections.none().with(5, "01 00", Wasm.unsigned(n)));
+        limit("pages at first that may grow", 2, n -> Sections.none().with(5, "01 01", Wasm.unsigned(n), "80 80 04"));
+        limit("pages at first and at most", 2, n -> Sections.none().with(5,
+                "01 01", Wasm.unsigned(n), Wasm.unsigned(n)));
+        reads("a memory of 0 pages", Sections.none().with(5, "01 00 00"), 0);
+        reads("a memory of 2 to 1 pages", Sections.none().with(5, "01 01 02 01"), 2);
+        reads("a memory of 3 to 1 pages", Sections.none().with(5, "01 01 03 01"), 3);
+        reads("a memory of 2 to 65537 pages", Sections.none().with(5, "01 01 02 81 80 04"), 2);
+        reads("a memory of 3 to 65537 pages", Sections.none().with(5, "01 01 03 81 80 04"), 3);
+        reads("a memory of 65537 pages", Sections.none().with(5, "01 00 81 80 04"), 3);
+        reads("a memory of the highest size", Sections.none().with(5, "01 00 ff ff ff ff 0f"), 3);
+        reads("two memories of 2 pages", Sections.none().with(5, "02 00 02 00 02"), 2);
+        reads("two memories, the first of 3 pages", Sections.none().with(5, "02 00 03 00 01"), 3);
+        reads("two memories, the second of 3 pages", Sections.none().with(5, "02 00 01 00 03"), 3);
+    }
+
+    private static Sections imported(Object... what) {
+        return Sections.none().with(2, "01 00 00", Wasm.bytes(what));
+    }
+
+    private static void importedTable() {
+        for (long size : new long[] {0, 199, 200, 201, 202, 0x7fffffffL, 0x80000000L, 0xfffffffeL, 0xffffffffL}) {
+            reads("an imported table of " + size, imported("01 70 00", Wasm.unsigned(size)), 0);
+            reads("an imported table of " + size + " and no more",
+                    imported("01 70 01", Wasm.unsigned(size), Wasm.unsigned(size)), 0);
+            reads("an imported table up to " + size, imported("01 70 01 00", Wasm.unsigned(size)), 0);
+            if (size > 0) {
+                reads("an imported table of " + size + " and less",
+                        imported("01 70 01", Wasm.unsigned(size), Wasm.unsigned(size - 1)), 2);
+            }
+        }
+        reads("an imported table of 2 to the 32", imported("01 70 00", Wasm.unsigned(0x100000000L)), 1);
+        reads("an imported table of 201 and an own of 200", imported("01 70 00 c9 01").with(4, "01 70 00 c8 01"), 2);
+        reads("an imported table and an own of 201", imported("01 70 00 00").with(4, "01 70 00 c9 01"), 3);
+    }
+
+    private static void importedMemory() {
+        for (long size : new long[] {0, 1, 2, 3, 4, 65535, 65536, 65537, 65538, 0x7fffffffL, 0xffffffffL}) {
+            int due = size <= 65536 ? 0 : 2;
+            reads("an imported memory of " + size, imported("02 00", Wasm.unsigned(size)), due);
+            reads("an imported memory of " + size + " and no more",
+                    imported("02 01", Wasm.unsigned(size), Wasm.unsigned(size)), due);
+            reads("an imported memory up to " + size, imported("02 01 00", Wasm.unsigned(size)), due);
+            if (size > 0) {
+                reads("an imported memory of " + size + " and less",
+                        imported("02 01", Wasm.unsigned(size), Wasm.unsigned(size - 1)), 2);
+            }
+        }
+        reads("an imported memory of 2 to the 32", imported("02 00", Wasm.unsigned(0x100000000L)), 1);
+        reads("an imported memory of 3 and an own of 2", imported("02 00 03").with(5, "01 00 02"), 2);
+        reads("an imported memory and an own of 3", imported("02 00 00").with(5, "01 00 03"), 3);
     }
 }

@@ -59,8 +59,11 @@ public final class RandomRowsTest {
     }
 
     private static void answersAfterAnyRead() {
-        WasmReader reader = new WasmReader();
+        WasmReader fresh = new WasmReader();
         for (int n = 0; n < 20000; n++) {
+            // A row of the seed's length takes some twenty calls with these answers, and an object is good for 512.
+            fresh = n % 16 == 0 ? new WasmReader() : fresh;
+            WasmReader reader = fresh;
             byte[] row = seed();
             row[RANDOM.nextInt(row.length)] ^= (byte) (1 << RANDOM.nextInt(8));
             boolean read = Wasm.read(reader, row) == 0;
