@@ -190,7 +190,21 @@ public final class LimitsTest {
                 "01", Wasm.many(n, "61"), "03 00"));
         limit("bytes of the second export's name", 20, n -> Sections.none().with(6, "01", Sections.I32_GLOBAL).with(7,
                 "02 00 03 00", Wasm.many(n, "ff"), "03 00"));
+        limit("bytes of the name of the last of 39 exports", 20, n -> lastName(39, n));
+        limit("bytes of the name of the last of 40 exports", 20, n -> lastName(40, n));
+        for (int length : new int[] {0, 20, 21, FAR}) {
+            reads("the last of 41 exports has a name of " + length, lastName(41, length), 3);
+        }
         reads("empty names", Sections.none().with(2, "01 00 00 03 7f 00").with(7, "01 00 03 00"), 0);
+    }
+
+    /** So many exports, of which the last has a name of so many bytes. */
+    private static Sections lastName(int exports, int bytes) {
+        byte[] parts = Wasm.unsigned(exports);
+        for (int e = 1; e < exports; e++) {
+            parts = Wasm.bytes(parts, "01", e, "03 00");
+        }
+        return Sections.globals(0, 1).with(7, parts, Wasm.many(bytes, "61"), "03 00");
     }
 
     /** The names of custom sections are of any length, as far as THE ROW is long enough. */

@@ -66,7 +66,10 @@ public final class RandomRowsTest {
             WasmReader reader = fresh;
             byte[] row = seed();
             row[RANDOM.nextInt(row.length)] ^= (byte) (1 << RANDOM.nextInt(8));
-            boolean read = Wasm.read(reader, row) == 0;
+            WasmReader other = new WasmReader();
+            int fault = Wasm.read(reader, row);
+            Check.same("the fault that a new object finds", fault, Wasm.read(other, row));
+            boolean read = fault == 0;
             int what = RANDOM.nextInt(30) - 5;
             int index = RANDOM.nextInt(10) - 3;
             Check.same("count", known(() -> reader.count(what), read), 1);
@@ -74,6 +77,17 @@ public final class RandomRowsTest {
             Check.same("export", known(() -> reader.export(index, what), read), 1);
             Check.same("global", known(() -> reader.global(index, what), read), 1);
             Check.same("initial", known(() -> reader.initial(index), read), 1);
+            Check.same("what a new object counts", got(() -> reader.count(what)), got(() -> other.count(what)));
+            Check.same("what a new object tells of a function",
+                    got(() -> reader.function(index, what)), got(() -> other.function(index, what)));
+        }
+    }
+
+    private static long got(Check.Call call) {
+        try {
+            return call.answer();
+        } catch (RuntimeException e) {
+            return Long.MIN_VALUE;
         }
     }
 

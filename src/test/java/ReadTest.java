@@ -1,10 +1,13 @@
 /** Promise 4: read, of an empty row, and of each FAULT after a MODULE was read. */
 public final class ReadTest {
-    private static final byte[] GOOD = Sections.globals(0, 1).with(7, "01 01 67 03 00").bytes();
+    private static final byte[] GOOD = Sections.body("01 7e 01 7e", "01 02 7f", "02 40 41 00 1a 0b 20 00 0b")
+            .with(6, "01", Sections.I32_GLOBAL).with(7, "01 01 67 03 00").bytes();
     private static final byte[][] ROWS = {
-        {}, {0}, Wasm.module(1), Sections.body("00 00", "00", "41 00 0b").bytes(),
-        Sections.none().with(5, "01 00 03").bytes()};
-    private static final int[] FAULTS = {1, 1, 1, 2, 3};
+        {}, {0}, Wasm.module(1), Sections.body("00 00", "00", "02 40 06 0b 0b").bytes(),
+        Sections.body("00 00", "00", "41 00 0b").bytes(), Sections.body("00 00", "00", "02 40 1a 0b 0b").bytes(),
+        Sections.none().with(8, "00").bytes(),
+        Sections.none().with(5, "01 00 03").bytes(), Sections.body("00 00", "01 1f 7f", "0b").bytes()};
+    private static final int[] FAULTS = {1, 1, 1, 1, 2, 2, 2, 3, 3};
 
     public static void main(String[] args) {
         emptyRow();
@@ -69,8 +72,8 @@ public final class ReadTest {
     }
 
     private static void faultAfterFault() {
-        WasmReader reader = new WasmReader();
         for (int first = 0; first < ROWS.length; first++) {
+            WasmReader reader = new WasmReader();
             for (int second = 0; second < ROWS.length; second++) {
                 Check.same("the first fault", Wasm.read(reader, ROWS[first]), FAULTS[first]);
                 Check.same("the second fault", Wasm.read(reader, ROWS[second]), FAULTS[second]);

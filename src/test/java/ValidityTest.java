@@ -25,6 +25,12 @@ public final class ValidityTest {
         module("a function of a type behind the last", 2, TYPES, Wasm.section(3, "01 04"), CODE);
         module("a function of a type that is not there", 2, TYPES, Wasm.section(3, "01 ff ff ff ff 0f"), CODE);
         module("a function without types", 2, FUNCTION, CODE);
+        module("the second function of a type that is not there", 2,
+                TYPES, Wasm.section(3, "02 00 04"), Wasm.section(10, "02 02 00 0b 02 00 0b"));
+        module("the last of three imports of a type that is not there", 2,
+                TYPES, Wasm.section(2, "03 00 00 00 00 00 00 00 03 00 00 00 04"));
+        module("a function of a type that is not there behind imports", 2,
+                TYPES, Wasm.section(2, "01 00 00 00 00"), Wasm.section(3, "01 04"), CODE);
         module("an import of the last type", 0, TYPES, Wasm.section(2, "01 00 00 00 03"));
         module("an import of a type that is not there", 2, TYPES, Wasm.section(2, "01 00 00 00 04"));
         module("imports of one name", 0, TYPES, Wasm.section(2, "02 01 61 01 62 00 00 01 61 01 62 00 00"));
