@@ -215,6 +215,9 @@ public final class GrammarTest {
         module("code without functions", 1, type, Wasm.section(10, "01 02 00 0b"));
         module("fewer codes than functions", 1, type, Wasm.section(3, "02 00 00"), Wasm.section(10, "01 02 00 0b"));
         module("more codes than functions", 1, type, function, Wasm.section(10, "02 02 00 0b 02 00 0b"));
+        module("more codes than functions, with locals", 1,
+                type, function, Wasm.section(10, "02 02 00 0b 04 01 1f 7f 0b"));
+        module("61 codes with locals and no functions", 1, type, Wasm.section(10, Wasm.many(61, "04 01 01 7f 0b")));
         module("an imported function needs no code", 0, type, Wasm.section(2, "01 00 00 00 00"));
         module("an imported function with code", 1,
                 type, Wasm.section(2, "01 00 00 00 00"), Wasm.section(10, "01 02 00 0b"));

@@ -48,6 +48,7 @@ public final class LimitsTest {
 
     private static void types() {
         limit("types", 40, Sections::types);
+        limit("types of parameters and a result", 40, n -> Sections.none().with(1, Wasm.many(n, "60 02 7e 7f 01 7e")));
         reads("the first type is known", Sections.types(40).with(2, "01 00 00 00 00"), 0);
         reads("the last of 40 types is known", Sections.types(40).with(2, "01 00 00 00 27"), 0);
         reads("the type behind the last of 40", Sections.types(40).with(2, "01 00 00 00 28"), 2);
@@ -72,6 +73,8 @@ public final class LimitsTest {
         limit("functions", 60, n -> Sections.functions(0, n));
         limit("functions, 1 imported", 60, n -> Sections.functions(1, n - 1));
         limit("functions, 30 imported", 60, n -> Sections.functions(30, n - 30));
+        limit("functions with locals and blocks", 60, n -> Sections.functions(0, n).with(10,
+                Wasm.many(n, Wasm.sized("01 02 7e", "02 40 0b 0b"))));
         reads("the last of 60 functions", Sections.functions(30, 30).with(8, "3b"), 0);
         reads("the function behind the last of 60", Sections.functions(30, 30).with(8, "3c"), 2);
     }
@@ -94,6 +97,8 @@ public final class LimitsTest {
 
     private static void elements() {
         limit("elements", 20, Sections::elements);
+        limit("elements of functions", 20, n -> Sections.functions(0, 1).with(4, "01 70 00 01").with(9,
+                Wasm.many(n, "00 41 00 0b 02 00 00")));
         reads("the last of 20 elements is wrong",
                 Sections.elements(0).with(9, "14", Wasm.times(19, "00 41 00 0b 00"), "00 42 00 0b 00"), 2);
         reads("an element of 300 functions",
@@ -102,6 +107,7 @@ public final class LimitsTest {
 
     private static void data() {
         limit("data", 20, Sections::data);
+        limit("data of bytes", 20, n -> Sections.data(0).with(11, Wasm.many(n, "00 41 00 0b 02 ff ff")));
         reads("the last of 20 data is wrong",
                 Sections.data(0).with(11, "14", Wasm.times(19, "00 41 00 0b 00"), "00 42 00 0b 00"), 2);
         reads("data of 3000 bytes", Sections.data(0).with(11, "01 00 41 00 0b", Wasm.many(3000, "00")), 0);
