@@ -16,6 +16,7 @@ public final class ReadTest {
         faultAfterFault();
         moduleAfterModule();
         nothingIsLeftOfWhatWasTooLarge();
+        nothingIsLeftOfWhatWasLonger();
         many();
         Check.finish("ReadTest");
     }
@@ -107,6 +108,35 @@ public final class ReadTest {
             Check.same("what it counts", reader.count(0) + reader.count(1) + reader.count(2) + reader.count(3)
                     + reader.count(4) + reader.count(5) + reader.count(6) + reader.count(7) + reader.count(8)
                     + reader.count(9) + reader.count(10), -1);
+        }
+    }
+
+    /** What the module before had more of, of types, globals or bytes of names, does not count for the next. */
+    private static void nothingIsLeftOfWhatWasLonger() {
+        WasmReader reader = new WasmReader();
+        Check.same("names of three bytes", Wasm.read(reader, Sections.globals(0, 1).with(7,
+                "02 03 61 62 63 03 00 03 61 64 65 03 00").bytes()), 0);
+        Check.same("two names of one byte, alike", Wasm.read(reader, Sections.globals(0, 1).with(7,
+                "02 01 61 03 00 01 61 03 00").bytes()), 2);
+        Check.same("two empty names", Wasm.read(reader, Sections.globals(0, 1).with(7,
+                "02 00 03 00 00 03 00").bytes()), 2);
+        for (int last : new int[] {0, 1, 2, 38, 39, 40}) {
+            Check.same("40 types", Wasm.read(reader, Sections.types(40).bytes()), 0);
+            Check.same("an import of type " + last + " of one", Wasm.read(reader,
+                    Sections.types(1).with(2, "01 00 00 00", last).bytes()), last == 0 ? 0 : 2);
+        }
+        for (int last : new int[] {0, 1, 2, 28, 29, 30}) {
+            Check.same("30 globals", Wasm.read(reader, Sections.globals(30, 0).bytes()), 0);
+            Check.same("an INITIAL of global " + last + " of one", Wasm.read(reader,
+                    Sections.globals(1, 0).with(6, "01 7f 00 23", last, "0b").bytes()), last == 0 ? 0 : 2);
+        }
+        WasmReader functions = new WasmReader();
+        for (int last : new int[] {0, 1, 2, 29, 30, 59, 60}) {
+            Check.same("60 functions", Wasm.read(functions, Sections.functions(30, 30).bytes()), 0);
+            Check.same("an export of function " + last + " of one", Wasm.read(functions,
+                    Sections.functions(1, 0).with(7, "01 00 00", last).bytes()), last == 0 ? 0 : 2);
+            Check.same("a start of " + last + " of one", Wasm.read(functions,
+                    Sections.functions(1, 0).with(8, last).bytes()), last == 0 ? 0 : 2);
         }
     }
 

@@ -32,7 +32,9 @@ public final class ValidityTest {
         module("a function of a type that is not there behind imports", 2,
                 TYPES, Wasm.section(2, "01 00 00 00 00"), Wasm.section(3, "01 04"), CODE);
         module("an import of the last type", 0, TYPES, Wasm.section(2, "01 00 00 00 03"));
-        module("an import of a type that is not there", 2, TYPES, Wasm.section(2, "01 00 00 00 04"));
+        for (int type = 4; type <= 41; type++) {
+            module("an import of a type that is not there", 2, TYPES, Wasm.section(2, "01 00 00 00", type));
+        }
         module("imports of one name", 0, TYPES, Wasm.section(2, "02 01 61 01 62 00 00 01 61 01 62 00 00"));
     }
 
